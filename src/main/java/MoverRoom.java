@@ -416,15 +416,14 @@ public final class MoverRoom {
             }
         }
 
+        /** Once all are at their goals it would only add to the sum if one left again. */
         private boolean isOver(int time) {
-            int sum = 0;
             for (int mover = 0; mover < crew.count; mover++) {
                 if (plan[time][mover] != crew.goals[mover]) {
                     return false;
                 }
-                sum += homeSince(mover, time);
             }
-            return sum <= planSum;
+            return true;
         }
 
         /** Sets the plan's next time for this mover and those behind it: the first that can end. */
@@ -434,12 +433,9 @@ public final class MoverRoom {
             }
             int from = plan[time][mover];
             for (int i = 0; i < floor.stepCount[from]; i++) {
-                int to = floor.steps[from][i];
-                if (!meets(plan[time], plan[time + 1], mover, to)) {
-                    plan[time + 1][mover] = to;
-                    if (chooseNext(time, mover + 1)) {
-                        return true;
-                    }
+                if (goes(plan[time], plan[time + 1], mover, floor.steps[from][i])
+                        && chooseNext(time, mover + 1)) {
+                    return true;
                 }
             }
             return false;
@@ -455,14 +451,18 @@ public final class MoverRoom {
             }
             // Where all are does not tell who of those at home has settled: each choice counts.
             for (int choice = home; choice >= 0; choice--) {
-                if ((choice & ~home) == 0 && canEndWith(time, choice, sum)) {
-                    return true;
+                if ((choice & ~home) == 0) {
+                    int waste = startSearch(time, choice, sum);
+                    if (waste >= 0 && reachesEnd(0, waste)) {
+                        return true;
+                    }
                 }
             }
             return false;
         }
 
-        private boolean canEndWith(int time, int choice, int sum) {
+        /** Starts a search from the plan's time with these settled: the waste that is left. */
+        private int startSearch(int time, int choice, int sum) {
             int waste = sum;
             for (int mover = 0; mover < crew.count; mover++) {
                 int cell = plan[time][mover];
@@ -474,7 +474,7 @@ public final class MoverRoom {
                 }
             }
             settled[0] = choice;
-            return waste >= 0 && reachesEnd(0, waste);
+            return waste;
         }
 
         /** The time from which on a mover that is at its goal at a time has been there. */
@@ -486,7 +486,7 @@ public final class MoverRoom {
             return since;
         }
 
-        /** The least cost to come for one that has not settled: from its goal it must go and return. */
+        /** The least cost to come for one not settled: from its goal it must go and return. */
         private int wayLeft(int mover, int cell) {
             return cell == crew.goals[mover] ? 2 : crew.toGoal[mover][cell];
         }
@@ -502,49 +502,42 @@ public final class MoverRoom {
             if (hopeless.get(state) > waste) {
                 return false;
             }
-            if (reachesEndMoving(depth, 0, waste)) {
+            if (reachesEndMoving(depth, 0, 0, waste)) {
                 return true;
             }
             hopeless.put(state, waste + 1);
             return false;
         }
 
-        /** The same when those before this mover have gone to their next cells. */
-        private boolean reachesEndMoving(int depth, int mover, int waste) {
+        /** The same when those before this mover have gone on, some of them to settle. */
+        private boolean reachesEndMoving(int depth, int mover, int settling, int waste) {
             if (mover >= crew.count) {
+                settled[depth + 1] = settling;
                 return reachesEnd(depth + 1, waste);
             }
-            int from = cells[depth][mover];
+            int[] now = cells[depth];
+            int[] next = cells[depth + 1];
+            int from = now[mover];
+            int withThis = settling | 1 << mover;
             if (isIn(settled[depth], mover)) {
-                return goes(depth, mover, from, true) && reachesEndMoving(depth, mover + 1, waste);
+                return goes(now, next, mover, from)
+                        && reachesEndMoving(depth, mover + 1, withThis, waste);
             }
             int spare = waste + wayLeft(mover, from) - 1;
-            int goal = crew.goals[mover];
-            // One that stays at its goal has settled when it came, or will go away again.
-            if (from != goal && floor.leads(from, goal) && goes(depth, mover, goal, true)
-                    && reachesEndMoving(depth, mover + 1, spare)) {
+            // It settles only as it comes: had it been at its goal, it would have settled before.
+            if (crew.toGoal[mover][from] == 1 && goes(now, next, mover, crew.goals[mover])
+                    && reachesEndMoving(depth, mover + 1, withThis, spare)) {
                 return true;
             }
             for (int i = 0; i < floor.stepCount[from]; i++) {
                 int to = floor.steps[from][i];
                 int left = spare - wayLeft(mover, to);
-                if (left >= 0 && goes(depth, mover, to, false)
-                        && reachesEndMoving(depth, mover + 1, left)) {
+                if (left >= 0 && goes(now, next, mover, to)
+                        && reachesEndMoving(depth, mover + 1, settling, left)) {
                     return true;
                 }
             }
             return false;
-        }
-
-        /** Puts a mover to its cell behind this depth, if it meets none of those before it there. */
-        private boolean goes(int depth, int mover, int to, boolean settles) {
-            if (meets(cells[depth], cells[depth + 1], mover, to)) {
-                return false;
-            }
-            cells[depth + 1][mover] = to;
-            int before = settled[depth + 1] & ((1 << mover) - 1);
-            settled[depth + 1] = settles ? before | 1 << mover : before;
-            return true;
         }
 
         private int stateAt(int depth) {
@@ -557,14 +550,15 @@ public final class MoverRoom {
             return state;
         }
 
-        /** Whether a mover that goes to a cell meets one of those before it. */
-        private static boolean meets(int[] now, int[] next, int mover, int to) {
+        /** Puts a mover to its next cell, unless it meets one of those before it. */
+        private static boolean goes(int[] now, int[] next, int mover, int to) {
             for (int other = 0; other < mover; other++) {
                 if (next[other] == to || next[other] == now[mover] && now[other] == to) {
-                    return true;
+                    return false;
                 }
             }
-            return false;
+            next[mover] = to;
+            return true;
         }
 
         private static boolean isIn(int set, int mover) {

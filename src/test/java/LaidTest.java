@@ -67,7 +67,10 @@ public final class LaidTest {
     }
 
     private static void whats() {
-        MoverRoom room = roomOf(2, 2, 0, 0);
+        MoverRoom room = roomOf(2, 2, 0, 1, 1, 0);
+        layAll(room, 0, 0, 1);
+        layAll(room, 1, 1, 0);
+        CHECK.judged("a pair is wrong", room, 3, 1, 0, 1);
         for (int what : new int[] {-1, 4, 5, Integer.MIN_VALUE, Integer.MAX_VALUE}) {
             CHECK.due("judge(" + what + ")", room.judge(what), -1);
         }

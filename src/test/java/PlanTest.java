@@ -16,6 +16,8 @@ public final class PlanTest {
         unchangedBehind();
         foundLast();
         againstAllPlans();
+        manyMovers();
+        largeRoomsAreGood();
         CHECK.end();
     }
 
@@ -193,7 +195,8 @@ public final class PlanTest {
         CHECK.holds(none + " without a plan are enough", none > 50);
     }
 
-    private static void compare(String what, SmallRoom small, MoverRoom room, int more, AllPlans all) {
+    private static void compare(
+            String what, SmallRoom small, MoverRoom room, int more, AllPlans all) {
         CHECK.due(what, room.solve(more), all.bestSum);
         for (int mover = 0; mover < small.movers(); mover++) {
             if (all.best == null) {
@@ -209,5 +212,64 @@ public final class PlanTest {
             }
             CHECK.due(what + ": cost(" + mover + ")", room.cost(mover), cost);
         }
+    }
+
+    private static MoverRoom roomOf(int w, int h, int[] walls, int... startsAndGoals) {
+        MoverRoom room = new MoverRoom();
+        room.room(w, h);
+        for (int cell : walls) {
+            room.wall(cell);
+        }
+        for (int i = 0; i < startsAndGoals.length; i += 2) {
+            CHECK.due("mover", room.mover(startsAndGoals[i], startsAndGoals[i + 1]), i / 2);
+        }
+        return room;
+    }
+
+    /** Sums that a slower search over all joint places told, too, beyond what AllPlans can do. */
+    private static void manyMovers() {
+        MoverRoom room = roomOf(2, 6, new int[] {5}, 1, 7, 4, 0, 11, 1, 10, 6);
+        CHECK.due("four in 11 cells", room.solve(6), 22);
+        room = roomOf(5, 2, new int[] {}, 7, 8, 5, 4, 1, 6, 8, 3);
+        CHECK.due("four in 10 cells", room.solve(6), 12);
+        room = roomOf(6, 2, new int[] {4}, 6, 1, 0, 11, 7, 9, 8, 10);
+        CHECK.due("four in 11 cells, no plan", room.solve(6), -1);
+        room = roomOf(5, 5, new int[] {2, 4, 8, 13, 18, 20}, 23, 24, 17, 5, 1, 19);
+        CHECK.due("three in 19 cells, no plan", room.solve(6), -1);
+    }
+
+    private static void largeRoomsAreGood() {
+        Random random = new Random(5);
+        int found = 0;
+        for (int round = 0; round < 1500; round++) {
+            SmallRoom small = SmallRoom.any(random, 25, 5);
+            MoverRoom room = small.made();
+            int sum = room.solve(6);
+            if (sum < 0) {
+                continue;
+            }
+            found++;
+            int costs = 0;
+            for (int mover = 0; mover < small.movers(); mover++) {
+                costs += room.cost(mover);
+                for (int time = 0; time < 30; time++) {
+                    room.lay(mover, time, room.at(mover, time));
+                }
+            }
+            CHECK.due(small + ": the costs' sum", costs, sum);
+            CHECK.judged(small.toString(), room, 0, -1, -1, -1);
+            int more = sum - distances(small, room);
+            CHECK.due(small + ": just enough", small.made().solve(more), sum);
+            CHECK.due(small + ": not enough", small.made().solve(more - 1), -1);
+        }
+        CHECK.holds(found + " with a plan are enough", found > 500);
+    }
+
+    private static int distances(SmallRoom small, MoverRoom room) {
+        int sum = 0;
+        for (int mover = 0; mover < small.movers(); mover++) {
+            sum += room.distance(mover);
+        }
+        return sum;
     }
 }
