@@ -363,6 +363,9 @@ public final class MoverRoom {
         private int planEnd;
         private int planSum;
         private int nextMore;
+        /** Whether the plan is laid out: it is the same for each search until something changes. */
+        private boolean known;
+        /** Whether the last search found the plan: one with less to spare may miss a known one. */
         boolean found;
 
         Planner(Floor floor, Crew crew) {
@@ -372,6 +375,7 @@ public final class MoverRoom {
 
         void forget() {
             found = false;
+            known = false;
             nextMore = 0;
         }
 
@@ -383,14 +387,15 @@ public final class MoverRoom {
             if (nextMore == 0) {
                 begin();
             }
-            for (; !found && nextMore <= more; nextMore++) {
+            for (; !known && nextMore <= more; nextMore++) {
                 if (canEnd(0, least + nextMore)) {
-                    found = true;
+                    known = true;
                     planSum = least + nextMore;
                     layOut();
                 }
             }
-            return found && planSum <= least + more ? planSum : NONE;
+            found = known && planSum <= least + more;
+            return found ? planSum : NONE;
         }
 
         int costOf(int mover) {

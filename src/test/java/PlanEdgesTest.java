@@ -21,6 +21,7 @@ public final class PlanEdgesTest {
         noneWasFoundYet();
         noneIsFound();
         foundLastStays();
+        noneIsFoundBehind();
         changedBehind();
         refusedCallsAreNoChange();
         behindTheEnd();
@@ -249,12 +250,23 @@ public final class PlanEdgesTest {
         FullRoom.isAsMade(CHECK, "with less", room);
         CHECK.due("with more: solve(6)", room.solve(6), 7);
         FullRoom.isAsMade(CHECK, "with more", room);
-        // It finds none: the plan found last is the one from before.
-        CHECK.due("with too little: solve(2)", room.solve(2), -1);
-        FullRoom.isAsMade(CHECK, "with too little", room);
+        // Such a call is refused: it seeks nothing, so the plan found last is the same.
         for (int more : new int[] {-1, 7, LEAST, MOST}) {
             CHECK.due("solve(" + more + ")", room.solve(more), -1);
             FullRoom.isAsMade(CHECK, "solve(" + more + ")", room);
+        }
+    }
+
+    /** 9 and 10: "or none was found": by the last search, though one before it had found one */
+    private static void noneIsFoundBehind() {
+        for (int more = 0; more < 3; more++) {
+            MoverRoom room = FullRoom.made();
+            CHECK.due("too little behind: solve(" + more + ")", room.solve(more), -1);
+            noPlan("too little behind", room);
+            CHECK.due("too little behind: solve(7)", room.solve(7), -1);
+            noPlan("too little behind, then refused", room);
+            CHECK.due("enough behind it: solve(3)", room.solve(3), 7);
+            FullRoom.isAsMade(CHECK, "enough behind it", room);
         }
     }
 

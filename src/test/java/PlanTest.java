@@ -157,19 +157,20 @@ public final class PlanTest {
     }
 
     private static void foundLast() {
-        // The plan found last is still there when a later search, with less to spare, finds none.
         MoverRoom room = new MoverRoom();
         room.room(3, 2);
         room.wall(3);
         room.wall(5);
         room.mover(0, 2);
         room.mover(2, 0);
-        CHECK.due("found last: solve(6)", room.solve(6), 7);
-        CHECK.due("found last: solve(2)", room.solve(2), -1);
-        CHECK.due("found last: solve(7)", room.solve(7), -1);
-        CHECK.due("found last: cost(0)", room.cost(0), 3);
-        CHECK.due("found last: at(1, 2)", room.at(1, 2), 4);
-        CHECK.due("found last: solve(4)", room.solve(4), 7);
+        CHECK.due("found: solve(6)", room.solve(6), 7);
+        CHECK.due("found: cost(0)", room.cost(0), 3);
+        CHECK.due("none found: solve(2)", room.solve(2), -1);
+        CHECK.due("none found: cost(0)", room.cost(0), -1);
+        CHECK.due("none found: at(1, 2)", room.at(1, 2), -1);
+        CHECK.due("found again: solve(4)", room.solve(4), 7);
+        CHECK.due("found again: cost(0)", room.cost(0), 3);
+        CHECK.due("found again: at(1, 2)", room.at(1, 2), 4);
     }
 
     private static void againstAllPlans() {
