@@ -9,7 +9,7 @@ final class SmallRoom {
     int[] starts = {};
     int[] goals = {};
 
-    private SmallRoom(int w, int h) {
+    SmallRoom(int w, int h) {
         this.w = w;
         this.h = h;
         walls = new boolean[w * h];
@@ -38,23 +38,30 @@ final class SmallRoom {
         return starts.length;
     }
 
-    private void add(int start, int goal) {
+    /** False, and no new mover, when the document does not allow it. */
+    boolean add(int start, int goal) {
         int count = movers();
-        if (walls[start] || walls[goal] || Math.pow(free(), count + 1) > 16000) {
-            return;
+        if (!isFree(start) || !isFree(goal) || Math.pow(free(), count + 1) > 16000) {
+            return false;
         }
         for (int mover = 0; mover < count; mover++) {
             if (starts[mover] == start || goals[mover] == goal) {
-                return;
+                return false;
             }
         }
         starts = Arrays.copyOf(starts, count + 1);
         goals = Arrays.copyOf(goals, count + 1);
         starts[count] = start;
         goals[count] = goal;
+        return true;
     }
 
-    private int free() {
+    void dismiss() {
+        starts = new int[0];
+        goals = new int[0];
+    }
+
+    int free() {
         int free = 0;
         for (boolean wall : walls) {
             free += wall ? 0 : 1;
